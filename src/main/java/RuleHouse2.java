@@ -209,8 +209,9 @@ public final class RuleHouse2 {
 
     private RuleClass findClass(int edition, int does) {
         for (int i = 0; i < ruleCount; i++) {
-            if (classOfRule[i].isOf(edition, does)) {
-                return classOfRule[i];
+            RuleClass known = classAt(i);
+            if (known != null && known.isOf(edition, does)) {
+                return known;
             }
         }
         return null;

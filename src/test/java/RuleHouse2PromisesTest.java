@@ -55,6 +55,8 @@ public final class RuleHouse2PromisesTest {
             house.divide(rule, a, by);
             return false;
         } catch (ArithmeticException e) {
+            // The machine's own text: the class is to throw by itself, ahead of the division.
+            due("thrown by the machine", "/ by zero".equals(e.getMessage()), false);
             return true;
         }
     }
@@ -282,16 +284,12 @@ public final class RuleHouse2PromisesTest {
         dueFailure("p6 behind a cell", house, counted, 5, 6, counted);
         due("p6 the cell stays", house.cell(4), 1);
         due("p6 the provider is gone", house.provider(counted, 2), 0);
-        dueFailure("p6 STEPS ahead of DOUBLE", new RuleHouse2(1), 0, 0);
+        RuleHouse2 single = new RuleHouse2(1);
+        int twice = newTarget(single, DECLARE + DECLARE_AGAIN, 0, 0, 0);
+        dueFailure("p6 STEPS ahead of DOUBLE", single, twice, 5, 1, twice);
         int keeper = newTarget(house, ACT + KEEP, 3, 0, 0);
         dueFailure("p6 STEPS ahead of a handle", house, keeper, 5, 7, keeper);
         due("p6 no handle", handleThrows(house, 0), false);
-    }
-
-    /** STEPS is told ahead of what the bit itself would tell. */
-    private static void dueFailure(String what, RuleHouse2 house, int amount, int divisor) {
-        int target = newTarget(house, DECLARE + DECLARE_AGAIN, amount, divisor, 0);
-        dueFailure(what, house, target, 5, 1, target);
     }
 
     private static void promise6RunRoom() {
