@@ -194,7 +194,7 @@ public final class RuleHouse2TermsEdgesTest {
     }
 
     private static void noneIsMinus1() {
-        says("The constants: NONE = -1");
+        says("`NONE = -1`: None");
         due("NONE", RuleHouse2.NONE, -1);
     }
 
@@ -525,7 +525,7 @@ public final class RuleHouse2TermsEdgesTest {
     }
 
     private static void needThrough40Targets() {
-        says("NEED (6) .. the TARGET that it needs, or needs by others");
+        says("NEED (6) if that failed .. or needs by others");
         RuleHouse2 house = houseOf(9, AMOUNT, 0);
         newTarget(house, DECLARE + DECLARE_AGAIN, 0, 0, 0);
         for (int i = 1; i < 40; i++) {
@@ -650,7 +650,7 @@ public final class RuleHouse2TermsEdgesTest {
     }
 
     private static void roomIfThereAre400() {
-        says("ROOM (7), ahead of one, if there are 400");
+        says("ROOM (7), ahead of one .. if there are 400");
         RuleHouse2 house = houseWithActions(21, 399);
         dueActions(house, 399);
         dueFailure(house, targetOf(house, 0, 2, 0, 0), ROOM, 2, 20);
